@@ -463,14 +463,19 @@ public final class WireLoom {
     }
 
     /**
-     * The bits of dividend / 2^halvings as a floating number. The language has no
+     * The bits of dividend / 2^halvings as a floating number. LANGUAGE.md leaves no
      * Double.doubleToLongBits; the dividends here are small enough to be told without rounding.
      */
     private static long bitsOfShare(int dividend, int halvings, int fraction, int bias) {
         if (dividend <= 0) {
             return 0;
         }
-        int top = 31 - Integer.numberOfLeadingZeros(dividend);
+        int top = 0;
+        for (int place = 1; place < 31; place++) {
+            if (bit(dividend, place) == 1) {
+                top = place;
+            }
+        }
         long exponent = bias + top - halvings;
         long rest = dividend - (1 << top);
         return (exponent << fraction) + (rest << (fraction - top));

@@ -1,3 +1,6 @@
+import java.lang.reflect.InvocationTargetException;
+import java.lang.reflect.Method;
+
 /** Long runs of calls, right and wrong ones, each held against the model. */
 final class ModelTest {
     private static final String[] CALLS = {"cross", "lay", "guard", "change", "set", "read", "start", "go", "append",
@@ -31,96 +34,28 @@ final class ModelTest {
         return draw(most + 1);
     }
 
-    private static String answer(WireLoom x, String call, int a, int b, int c) {
-        try {
-            return String.valueOf(value(x, call, a, b, c));
-        } catch (RuntimeException e) {
-            return e.getClass().getName();
-        }
-    }
-
-    private static long value(WireLoom x, String call, int a, int b, int c) {
-        switch (call) {
-            case "cross": return x.cross(a, b);
-            case "lay": return x.lay(a, b);
-            case "guard": return x.guard(a);
-            case "change": return x.change(a);
-            case "set": return x.set(a, b);
-            case "read": return x.read(a);
-            case "start": return x.start();
-            case "go": return x.go(a);
-            case "append": return x.append(a);
-            case "clearBuffer": return x.clearBuffer();
-            case "firstError": return x.firstError();
-            case "load": return x.load(a);
-            case "write": return x.write(a, b);
-            case "keep": return x.keep(a);
-            case "goBack": return x.goBack(a);
-            case "undo": return x.undo();
-            case "threadOf": return x.threadOf(a, b);
-            case "ringOf": return x.ringOf(a, b);
-            case "strength": return x.strength(a, b, c);
-            case "machine": return x.machine(a);
-            case "told": return x.told(a);
-            case "count": return x.count(a);
-            case "setting": return x.setting(a);
-            case "ifLoaded": return x.ifLoaded(a);
-            case "bestPlace": return x.bestPlace();
-            case "bestGuard": return x.bestGuard();
-            case "lastsFor": return x.lastsFor(a);
-            case "ifGone": return x.ifGone(a, b);
-            case "rightShare": return Double.doubleToLongBits(x.rightShare());
-            case "meanWear": return Float.floatToIntBits(x.meanWear());
-            default: return x.digest();
-        }
-    }
-
-    private static String answer(Model x, String call, int a, int b, int c) {
-        try {
-            return String.valueOf(value(x, call, a, b, c));
-        } catch (IllegalArgumentException | IllegalStateException e) {
-            return e.getClass().getName();
-        } catch (IndexOutOfBoundsException e) {
-            if (e.getClass() != IndexOutOfBoundsException.class) {
-                throw e;
+    private static Method find(Class<?> kind, String call) {
+        for (Method method : kind.getDeclaredMethods()) {
+            if (method.getName().equals(call)) {
+                return method;
             }
-            return e.getClass().getName();
         }
+        throw new IllegalStateException(kind + " has no " + call);
     }
 
-    private static long value(Model x, String call, int a, int b, int c) {
-        switch (call) {
-            case "cross": return x.cross(a, b);
-            case "lay": return x.lay(a, b);
-            case "guard": return x.guard(a);
-            case "change": return x.change(a);
-            case "set": return x.set(a, b);
-            case "read": return x.read(a);
-            case "start": return x.start();
-            case "go": return x.go(a);
-            case "append": return x.append(a);
-            case "clearBuffer": return x.clearBuffer();
-            case "firstError": return x.firstError();
-            case "load": return x.load(a);
-            case "write": return x.write(a, b);
-            case "keep": return x.keep(a);
-            case "goBack": return x.goBack(a);
-            case "undo": return x.undo();
-            case "threadOf": return x.threadOf(a, b);
-            case "ringOf": return x.ringOf(a, b);
-            case "strength": return x.strength(a, b, c);
-            case "machine": return x.machine(a);
-            case "told": return x.told(a);
-            case "count": return x.count(a);
-            case "setting": return x.setting(a);
-            case "ifLoaded": return x.ifLoaded(a);
-            case "bestPlace": return x.bestPlace();
-            case "bestGuard": return x.bestGuard();
-            case "lastsFor": return x.lastsFor(a);
-            case "ifGone": return x.ifGone(a, b);
-            case "rightShare": return Double.doubleToLongBits(x.rightShare());
-            case "meanWear": return Float.floatToIntBits(x.meanWear());
-            default: return x.digest();
+    /** What a loom or a model answers, or the name of what it throws. */
+    private static String answer(Object target, String call, int... arguments) {
+        Method method = find(target.getClass(), call);
+        Object[] taken = new Object[method.getParameterCount()];
+        for (int i = 0; i < taken.length; i++) {
+            taken[i] = arguments[i];
+        }
+        try {
+            return String.valueOf(method.invoke(target, taken));
+        } catch (InvocationTargetException e) {
+            return e.getCause().getClass().getName();
+        } catch (IllegalAccessException e) {
+            throw new IllegalStateException(e);
         }
     }
 

@@ -62,6 +62,9 @@ final class PromiseTest {
         for (int what = 0; what < 9; what++) {
             due("p1 machine(" + what + ")", x.machine(what), what == 6 ? 1 : 0);
         }
+        for (int what = 0; what < 10; what++) {
+            due("p1 count(" + what + ")", x.count(what), what == 4 ? 16 : what == 7 ? 120 : 0);
+        }
         due("p1 told", x.told(0), NONE);
         dueThrow("p1 goBack(0)", x, STATE, () -> x.goBack(0));
         dueThrow("p1 goBack(1)", x, STATE, () -> x.goBack(1));
@@ -199,10 +202,10 @@ final class PromiseTest {
     }
 
     private static void p8Start() {
-        WireLoom x = loaded("35.62.e0");
-        x.go(4);
+        WireLoom x = loaded("35.62.63.60.61.e0");
+        x.go(7);
         due("p8 stopped", x.machine(6), 0);
-        due("p8 steps", x.start(), 4);
+        due("p8 steps", x.start(), 7);
         for (int what = 0; what < 9; what++) {
             due("p8 machine(" + what + ")", x.machine(what), what == 6 ? 1 : 0);
         }
@@ -212,7 +215,7 @@ final class PromiseTest {
         due("p8 saved", x.count(9), 4);
         x.undo();
         x.undo();
-        due("p8 undone: steps", x.machine(7), 4);
+        due("p8 undone: steps", x.machine(7), 7);
         due("p8 undone: cell", x.machine(4), 21);
         due("p8 undone: told", x.told(0), 21);
     }
@@ -622,6 +625,11 @@ final class PromiseTest {
         }
         WireLoom y = loaded("00030c0f.30333c3f.c0c3cccf.f0f3fcff");
         due("p23 fewest unlike", y.count(8), 2);
+        WireLoom full = loaded("5556595a.6566696a.9596999a.a5a6a9aa");
+        due("p23 fewest unlike of words with many bits", full.count(8), 2);
+        WireLoom worn = new WireLoom();
+        worn.cross(0, 0);
+        due("p23 the greatest wear is that of ring 0", worn.count(6), 2);
         y.lay(1, 0x01);
         due("p23 fewest unlike then", y.count(8), 1);
         y.set(1, 1);
@@ -676,6 +684,12 @@ final class PromiseTest {
         due("p26 other words", x.bestPlace(), 4);
         type(x, "34.00.00");
         due("p26 the whole program", x.bestPlace(), 7);
+        x.lay(0, 0x56);
+        x.lay(1, 0x78);
+        type(x, "56");
+        due("p26 at 0", x.bestPlace(), 0);
+        type(x, "78");
+        due("p26 at 1", x.bestPlace(), 1);
         type(x, "3400.");
         due("p26 not whole", x.bestPlace(), NONE);
         x.lay(15, 0xaa);
@@ -837,6 +851,9 @@ final class PromiseTest {
         x.lay(1, 170);
         type(x, "0055");
         due("p32 a program", x.digest(), digestOf(x, 1, 1, "0055"));
+        x.guard(0);
+        x.guard(1);
+        due("p32 guarded", x.digest(), digestOf(x, 1, 1, "0055"));
     }
 
     /** Shares of each size, so that no bit of them is told wrongly. */
@@ -860,6 +877,11 @@ final class PromiseTest {
             due("p32 shares", x.digest(), digestOf(x, 0, 0, ""));
         }
         check.due("p32 none is right", x.rightShare() == 0.0);
+        for (int t = 0; t < 16; t++) {
+            x.lay(t, 0);
+            due("p32 some are right", x.digest(), digestOf(x, 0, 0, ""));
+            check.due("p32 how many are right", x.rightShare() == (t + 1) / 16.0);
+        }
     }
 
     /** A whole run of 512 calls with the worst arguments throws nothing but what is named. */
