@@ -15,36 +15,6 @@ final class PromiseTest {
         check.dueThrow(what, x, kind, call);
     }
 
-    private static void type(WireLoom x, String text) {
-        x.clearBuffer();
-        for (int i = 0; i < text.length(); i++) {
-            x.append(text.charAt(i));
-        }
-    }
-
-    private static WireLoom loaded(String program) {
-        WireLoom x = new WireLoom();
-        type(x, program);
-        x.load(0);
-        return x;
-    }
-
-    /** A chain: thread 0 in ring 0, thread t (1 to 7) in the rings t - 1 and t. */
-    private static WireLoom chain() {
-        WireLoom x = new WireLoom();
-        x.lay(0, 1);
-        for (int t = 1; t <= 7; t++) {
-            x.lay(t, 3 << (t - 1));
-        }
-        return x;
-    }
-
-    private static void wearTo(WireLoom x, int thread, int ring, int wear) {
-        while (x.ringOf(ring, 0) < wear) {
-            x.read(thread);
-        }
-    }
-
     private static void p1NewObject() {
         WireLoom x = new WireLoom();
         for (int t = 0; t < 16; t++) {
@@ -117,7 +87,7 @@ final class PromiseTest {
     }
 
     private static void p4Guard() {
-        WireLoom x = chain();
+        WireLoom x = Looms.chain();
         due("p4 one hop", x.strength(0, 1, 1), 1);
         due("p4 guarded", x.guard(1), 1);
         due("p4 no way by a guarded one", x.strength(0, 1, 1), NONE);
@@ -184,11 +154,11 @@ final class PromiseTest {
         due("p7 ring past", x.ringOf(1, 0), 0);
         due("p7 readings", x.count(3), 1);
         due("p7 of the thread", x.threadOf(2, 7), 1);
-        wearTo(x, 2, 0, 29);
+        Looms.wearTo(x, 2, 0, 29);
         due("p7 the word as the rings were ahead", x.read(2), 0x81);
         due("p7 worn", x.ringOf(0, 0), 30);
         due("p7 then another word", x.read(2), 0);
-        wearTo(x, 2, 0, 99);
+        Looms.wearTo(x, 2, 0, 99);
         x.read(2);
         due("p7 wear at most 99", x.ringOf(0, 0), 99);
         due("p7 saved", x.count(9), 6);
@@ -202,7 +172,7 @@ final class PromiseTest {
     }
 
     private static void p8Start() {
-        WireLoom x = loaded("35.62.63.60.61.e0");
+        WireLoom x = Looms.loaded("35.62.63.60.61.e0");
         x.go(7);
         due("p8 stopped", x.machine(6), 0);
         due("p8 steps", x.start(), 7);
@@ -221,7 +191,7 @@ final class PromiseTest {
     }
 
     private static void p9Go() {
-        WireLoom x = loaded("3f.60.40.c5.e0.a0.00");
+        WireLoom x = Looms.loaded("3f.60.40.c5.e0.a0.00");
         due("p9 some steps", x.go(1), 1);
         due("p9 order 1", x.machine(1), 31);
         x.go(1);
@@ -249,26 +219,26 @@ final class PromiseTest {
     }
 
     private static void p9Orders() {
-        WireLoom jump = loaded("9e");
+        WireLoom jump = Looms.loaded("9e");
         jump.go(1);
         due("p9 order 4 modulo 16", jump.machine(0), 14);
-        WireLoom zero = loaded("bf");
+        WireLoom zero = Looms.loaded("bf");
         zero.go(1);
         due("p9 order 5 without a count", zero.machine(0), 15);
-        WireLoom below = loaded("dfe0");
+        WireLoom below = Looms.loaded("dfe0");
         due("p9 two steps", below.go(2), 2);
         due("p9 counts below 0", below.told(0), 225);
-        WireLoom above = loaded("df5c7f40");
+        WireLoom above = Looms.loaded("df5c7f40");
         above.go(1);
         due("p9 cells are empty", above.go(1), 1);
         due("p9 count", above.machine(1), 225);
         above.go(1);
         due("p9 cell modulo 4", above.machine(5), 225);
-        WireLoom sum = loaded("df634b43");
+        WireLoom sum = Looms.loaded("df634b43");
         sum.go(4);
         due("p9 counts beyond 255", sum.machine(1), (225 + 225 + 225) % 256);
-        WireLoom ring = loaded("8f");
-        type(ring, "21");
+        WireLoom ring = Looms.loaded("8f");
+        Looms.type(ring, "21");
         ring.load(15);
         ring.go(2);
         due("p9 behind 15 comes 0", ring.machine(0), 0);
@@ -299,7 +269,7 @@ final class PromiseTest {
     private static void p11ClearBuffer() {
         WireLoom x = new WireLoom();
         due("p11 empty", x.clearBuffer(), 0);
-        type(x, "xyz");
+        Looms.type(x, "xyz");
         due("p11 three", x.clearBuffer(), 3);
         due("p11 empty then", x.clearBuffer(), 0);
         due("p11 begins anew", x.append('1'), 1);
@@ -308,7 +278,7 @@ final class PromiseTest {
 
     private static void dueError(String text, int want) {
         WireLoom x = new WireLoom();
-        type(x, text);
+        Looms.type(x, text);
         due("p12 " + text, x.firstError(), want);
     }
 
@@ -343,7 +313,7 @@ final class PromiseTest {
 
     private static void p13Load() {
         WireLoom x = new WireLoom();
-        type(x, "0103.07");
+        Looms.type(x, "0103.07");
         due("p13 changed", x.load(15), 6);
         due("p13 thread 15", x.threadOf(15, 0), 1);
         due("p13 thread 0", x.threadOf(0, 0), 3);
@@ -356,20 +326,20 @@ final class PromiseTest {
         due("p13 undone", x.count(0), 0);
         due("p13 the buffer stays empty", x.clearBuffer(), 0);
         x.set(1, 1);
-        type(x, "fe");
+        Looms.type(x, "fe");
         due("p13 missing", x.load(2), 1);
         due("p13 missing: thread", x.threadOf(2, 0), 1);
         dueThrow("p13 nothing", x, ARGUMENT, () -> x.load(0));
         for (String text : new String[] {"0", "00.", "00.1", "0G", "00..11"}) {
-            type(x, text);
+            Looms.type(x, text);
             dueThrow("p13 load of " + text, x, ARGUMENT, () -> x.load(0));
             dueThrow("p13 load(16) of " + text, x, INDEX, () -> x.load(16));
         }
-        type(x, "11");
+        Looms.type(x, "11");
         dueThrow("p13 load(16)", x, INDEX, () -> x.load(16));
         dueThrow("p13 load(-1)", x, INDEX, () -> x.load(-1));
         due("p13 the buffer stays", x.clearBuffer(), 2);
-        type(x, "000102030405060708090a0b0c0d0e0f");
+        Looms.type(x, "000102030405060708090a0b0c0d0e0f");
         x.load(3);
         due("p13 sixteen words", x.threadOf(2, 2), 15);
     }
@@ -378,7 +348,7 @@ final class PromiseTest {
         WireLoom x = new WireLoom();
         x.lay(0, 0x81);
         x.lay(1, 0x7e);
-        type(x, "what.was.there");
+        Looms.type(x, "what.was.there");
         due("p14 length", x.write(0, 1), 4);
         due("p14 a program", x.firstError(), 4);
         due("p14 just these words", x.ifLoaded(0), 0);
@@ -388,7 +358,7 @@ final class PromiseTest {
         long dot = x.append('.');
         due("p14 a dot fits behind", x.firstError(), dot);
         due("p14 all", x.write(0, 15), 32);
-        wearTo(x, 0, 0, 30);
+        Looms.wearTo(x, 0, 0, 30);
         x.write(0, 0);
         x.load(5);
         due("p14 the word that is told, not meant", x.threadOf(5, 2), 0);
@@ -425,7 +395,7 @@ final class PromiseTest {
     }
 
     private static void p16GoBack() {
-        WireLoom x = loaded("2162e0");
+        WireLoom x = Looms.loaded("2162e0");
         x.guard(9);
         x.go(3);
         x.set(0, 3);
@@ -435,7 +405,7 @@ final class PromiseTest {
         x.set(0, 5);
         x.start();
         x.read(0);
-        type(x, "12");
+        Looms.type(x, "12");
         due("p16 crossings", x.goBack(1), 8);
         due("p16 guard", x.threadOf(9, 1), 1);
         due("p16 setting", x.setting(0), 3);
@@ -465,7 +435,7 @@ final class PromiseTest {
             x.cross(t, 0);
         }
         due("p17 at most six", x.count(9), 6);
-        type(x, "ab");
+        Looms.type(x, "ab");
         for (int left = 5; left >= 0; left--) {
             due("p17 left", x.undo(), left);
             due("p17 crossings", x.count(0), left + 2);
@@ -498,12 +468,12 @@ final class PromiseTest {
         }
         x.set(1, 0);
         x.set(0, 8);
-        wearTo(x, 0, 0, 10);
+        Looms.wearTo(x, 0, 0, 10);
         due("p18 told", x.threadOf(0, 3), 0);
         due("p18 silent", x.threadOf(0, 6), 3);
         due("p18 sneaking", x.threadOf(0, 5), 0);
         due("p18 unlike", x.threadOf(0, 4), 2);
-        WireLoom machine = loaded("8080");
+        WireLoom machine = Looms.loaded("8080");
         machine.go(5);
         due("p18 read by the machine", machine.threadOf(0, 7), 5);
         dueThrow("p18 threadOf(16, 0)", x, INDEX, () -> x.threadOf(16, 0));
@@ -522,7 +492,7 @@ final class PromiseTest {
         due("p19 how many", x.ringOf(0, 2), 2);
         due("p19 by one of its own and one that sneaks", x.ringOf(1, 3), 2);
         due("p19 it answers", x.ringOf(0, 4), 0);
-        wearTo(x, 15, 0, 39);
+        Looms.wearTo(x, 15, 0, 39);
         due("p19 worn to the edge", x.ringOf(0, 4), 0);
         x.read(15);
         due("p19 worn out", x.ringOf(0, 4), 1);
@@ -538,7 +508,7 @@ final class PromiseTest {
     }
 
     private static void p20Strength() {
-        WireLoom x = chain();
+        WireLoom x = Looms.chain();
         int[] want = {8, 5, 2, 0, 0, 0, 0, 0};
         for (int r = 0; r < 8; r++) {
             due("p20 strength(0, " + r + ", 0)", x.strength(0, r, 0), want[r]);
@@ -556,12 +526,12 @@ final class PromiseTest {
         due("p20 no thread in any ring", x.strength(9, 0, 1), NONE);
         x.set(0, 1);
         due("p20 told with two hops", x.threadOf(0, 3), 0b11000111);
-        wearTo(x, 0, 0, 9);
+        Looms.wearTo(x, 0, 0, 9);
         due("p20 worn by 9", x.strength(0, 0, 0), 8);
-        wearTo(x, 0, 0, 10);
+        Looms.wearTo(x, 0, 0, 10);
         due("p20 worn by 10", x.strength(0, 0, 0), 7);
         due("p20 worn and sneaking", x.strength(2, 0, 0), 4);
-        wearTo(x, 0, 0, 99);
+        Looms.wearTo(x, 0, 0, 99);
         due("p20 worn by 99", x.strength(0, 0, 0), 0);
         due("p20 at least 0", x.strength(2, 0, 0), 0);
         due("p20 hops all the same", x.strength(2, 0, 1), 1);
@@ -574,7 +544,7 @@ final class PromiseTest {
     }
 
     private static void p21Machine() {
-        WireLoom x = loaded("21.60.22.61.23.62.24.63.e0.e0.80");
+        WireLoom x = Looms.loaded("21.60.22.61.23.62.24.63.e0.e0.80");
         x.go(10);
         long[] want = {10, 4, 1, 2, 3, 4, 1, 10, 2};
         for (int what = 0; what < 9; what++) {
@@ -589,7 +559,7 @@ final class PromiseTest {
     }
 
     private static void p22Told() {
-        WireLoom x = loaded("c1.e0.80");
+        WireLoom x = Looms.loaded("c1.e0.80");
         for (int t = 0; t < 3; t++) {
             x.guard(t);
         }
@@ -623,9 +593,9 @@ final class PromiseTest {
         for (int what = 0; what < 10; what++) {
             due("p23 count(" + what + ")", x.count(what), want[what]);
         }
-        WireLoom y = loaded("00030c0f.30333c3f.c0c3cccf.f0f3fcff");
+        WireLoom y = Looms.loaded("00030c0f.30333c3f.c0c3cccf.f0f3fcff");
         due("p23 fewest unlike", y.count(8), 2);
-        WireLoom full = loaded("5556595a.6566696a.9596999a.a5a6a9aa");
+        WireLoom full = Looms.loaded("5556595a.6566696a.9596999a.a5a6a9aa");
         due("p23 fewest unlike of words with many bits", full.count(8), 2);
         WireLoom worn = new WireLoom();
         worn.cross(0, 0);
@@ -639,7 +609,7 @@ final class PromiseTest {
         WireLoom z = new WireLoom();
         z.lay(0, 1);
         z.set(0, 8);
-        wearTo(z, 0, 0, 10);
+        Looms.wearTo(z, 0, 0, 10);
         due("p23 pairs by what is told", z.count(7), 120);
         due("p23 wrong words", z.count(4), 15);
         dueThrow("p23 count(10)", x, ARGUMENT, () -> x.count(10));
@@ -658,15 +628,15 @@ final class PromiseTest {
     }
 
     private static void p25IfLoaded() {
-        WireLoom x = loaded("ff0f");
+        WireLoom x = Looms.loaded("ff0f");
         due("p25 empty", x.ifLoaded(0), NONE);
-        type(x, "ff.0e");
+        Looms.type(x, "ff.0e");
         due("p25 at 0", x.ifLoaded(0), 1);
         due("p25 at 1", x.ifLoaded(1), 7);
         due("p25 around", x.ifLoaded(15), 13);
         due("p25 the buffer stays", x.append('.'), 6);
         due("p25 not whole", x.ifLoaded(0), NONE);
-        type(x, "0e");
+        Looms.type(x, "0e");
         x.set(1, 1);
         due("p25 missing", x.ifLoaded(0), 3);
         due("p25 as load", x.load(0), 3);
@@ -676,25 +646,25 @@ final class PromiseTest {
     }
 
     private static void p26BestPlace() {
-        WireLoom x = loaded("00.00.00.12.34.00.12.34");
+        WireLoom x = Looms.loaded("00.00.00.12.34.00.12.34");
         due("p26 empty", x.bestPlace(), NONE);
-        type(x, "1234");
+        Looms.type(x, "1234");
         due("p26 of several the lowest", x.bestPlace(), 3);
-        type(x, "34.00");
+        Looms.type(x, "34.00");
         due("p26 other words", x.bestPlace(), 4);
-        type(x, "34.00.00");
+        Looms.type(x, "34.00.00");
         due("p26 the whole program", x.bestPlace(), 7);
         x.lay(0, 0x56);
         x.lay(1, 0x78);
-        type(x, "56");
+        Looms.type(x, "56");
         due("p26 at 0", x.bestPlace(), 0);
-        type(x, "78");
+        Looms.type(x, "78");
         due("p26 at 1", x.bestPlace(), 1);
-        type(x, "3400.");
+        Looms.type(x, "3400.");
         due("p26 not whole", x.bestPlace(), NONE);
         x.lay(15, 0xaa);
         x.lay(0, 0xbb);
-        type(x, "aabb");
+        Looms.type(x, "aabb");
         due("p26 around", x.bestPlace(), 15);
         due("p26 nothing is changed", x.clearBuffer(), 4);
     }
@@ -748,7 +718,7 @@ final class PromiseTest {
     }
 
     private static void p29IfGone() {
-        WireLoom x = loaded("c1.e0.80");
+        WireLoom x = Looms.loaded("c1.e0.80");
         x.go(2);
         due("p29 steps", x.ifGone(4, 0), 4);
         due("p29 count", x.ifGone(4, 1), 254);
@@ -775,8 +745,8 @@ final class PromiseTest {
         x.lay(1, 3);
         x.set(0, 5);
         check.due("p30 fifteen", x.rightShare() == 0.9375);
-        wearTo(x, 1, 0, 99);
-        wearTo(x, 1, 1, 99);
+        Looms.wearTo(x, 1, 0, 99);
+        Looms.wearTo(x, 1, 1, 99);
         check.due("p30 fourteen", x.rightShare() == 0.875);
     }
 
@@ -790,70 +760,27 @@ final class PromiseTest {
         check.due("p31 more", x.meanWear() == 3.25f);
     }
 
-    private static long fold(long hash, long... values) {
-        long folded = hash;
-        for (long value : values) {
-            folded = 31 * folded + value;
-        }
-        return folded;
-    }
-
-    /** The digest by the face alone, but for what the caller knows: the slots and the buffer. */
-    private static long digestOf(WireLoom x, int slot0, int slot1, String buffer) {
-        long hash = 3371;
-        for (int what = 0; what < 10; what++) {
-            hash = fold(hash, x.count(what));
-        }
-        hash = fold(hash, x.setting(0), x.setting(1));
-        for (int t = 0; t < 16; t++) {
-            for (int what = 0; what < 8; what++) {
-                hash = fold(hash, x.threadOf(t, what));
-            }
-            hash = fold(hash, x.lastsFor(t));
-        }
-        for (int i = 0; i < 40; i++) {
-            hash = fold(hash, x.ringOf(i / 5, i % 5));
-        }
-        for (int i = 0; i < 16; i++) {
-            hash = fold(hash, x.strength(i / 8, i % 8, 0));
-        }
-        for (int what = 0; what < 9; what++) {
-            hash = fold(hash, x.machine(what));
-        }
-        for (int ago = 0; ago < 8; ago++) {
-            hash = fold(hash, x.told(ago));
-        }
-        hash = fold(hash, x.ifGone(20, 0), x.ifGone(20, 1), x.ifGone(20, 2), x.ifGone(20, 3));
-        hash = fold(hash, x.ifLoaded(0), x.bestPlace(), x.bestGuard());
-        hash = fold(hash, Double.doubleToLongBits(x.rightShare()), Float.floatToIntBits(x.meanWear()));
-        hash = fold(hash, slot0, slot1, buffer.length());
-        for (int i = 0; i < buffer.length(); i++) {
-            hash = fold(hash, buffer.charAt(i));
-        }
-        return hash;
-    }
-
     private static void p32Digest() {
         WireLoom x = new WireLoom();
-        due("p32 new", x.digest(), digestOf(x, 0, 0, ""));
-        type(x, "3f.e0~");
-        due("p32 buffer", x.digest(), digestOf(x, 0, 0, "3f.e0~"));
-        type(x, "3f.e0.80");
+        due("p32 new", x.digest(), Looms.digestOf(x, 0, 0, ""));
+        Looms.type(x, "3f.e0~");
+        due("p32 buffer", x.digest(), Looms.digestOf(x, 0, 0, "3f.e0~"));
+        Looms.type(x, "3f.e0.80");
         x.load(0);
         x.keep(1);
-        due("p32 slot 1", x.digest(), digestOf(x, 0, 1, ""));
+        due("p32 slot 1", x.digest(), Looms.digestOf(x, 0, 1, ""));
         x.go(50);
         x.keep(0);
         x.lay(9, 255);
         x.set(0, 2);
-        due("p32 both slots", x.digest(), digestOf(x, 1, 1, ""));
+        due("p32 both slots", x.digest(), Looms.digestOf(x, 1, 1, ""));
         x.set(0, 8);
         x.lay(1, 170);
-        type(x, "0055");
-        due("p32 a program", x.digest(), digestOf(x, 1, 1, "0055"));
+        Looms.type(x, "0055");
+        due("p32 a program", x.digest(), Looms.digestOf(x, 1, 1, "0055"));
         x.guard(0);
         x.guard(1);
-        due("p32 guarded", x.digest(), digestOf(x, 1, 1, "0055"));
+        due("p32 guarded", x.digest(), Looms.digestOf(x, 1, 1, "0055"));
     }
 
     /** Shares of each size, so that no bit of them is told wrongly. */
@@ -874,12 +801,12 @@ final class PromiseTest {
             if (i % 8 == 3) {
                 x.cross(i % 16, i % 5);
             }
-            due("p32 shares", x.digest(), digestOf(x, 0, 0, ""));
+            due("p32 shares", x.digest(), Looms.digestOf(x, 0, 0, ""));
         }
         check.due("p32 none is right", x.rightShare() == 0.0);
         for (int t = 0; t < 16; t++) {
             x.lay(t, 0);
-            due("p32 some are right", x.digest(), digestOf(x, 0, 0, ""));
+            due("p32 some are right", x.digest(), Looms.digestOf(x, 0, 0, ""));
             check.due("p32 how many are right", x.rightShare() == (t + 1) / 16.0);
         }
     }
